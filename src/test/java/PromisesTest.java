@@ -334,6 +334,9 @@ public final class PromisesTest {
         d.due("5 grief is no more by it", y.told(20), 10);
         y.rocket(4, 0, 0, 0);
         d.due("5 a cake of no light is not seen ahead of itself", y.light(1), 1);
+        y.rocket(1, 1, 0, 0);
+        d.due("5 light 1", y.light(2), 2);
+        d.due("5 grief is 1 less", y.told(20), 9);
     }
 
     private static void promise6Grieve() {
@@ -376,11 +379,13 @@ public final class PromisesTest {
         for (int part = 0; part < 4; part++) {
             d.due("8 first", x.row(0, part, 9 - part), 0);
         }
+        d.due("8 whom it is for and its state", x.of(0, 3) * 10 + x.of(0, 5), 0);
         for (int part = 0; part < 4; part++) {
             d.due("8 light in its minute", x.of(0, 6), 9 - part);
             d.due("8 was", x.row(0, part, part), 9 - part);
             x.pass(1);
         }
+        d.due("8 its state stays", x.of(0, 5), 0);
         d.due("8 another kind", x.row(1, 0, 0), -3);
         d.due("8 bad ahead of another kind", x.row(1, 0, 10), -2);
         d.due("8 bad -1", x.row(0, 0, -1), -2);
@@ -664,6 +669,14 @@ public final class PromisesTest {
         x.grieve(0, 23);
         d.due("11 none is enough", x.told(30), -5);
         d.due("11 grief stays", x.told(20), 23);
+        FireApologies z = new FireApologies();
+        for (int p = 0; p < 6; p++) {
+            z.rocket(0, 0, 1, 0);
+        }
+        for (int n = 1; n <= 6; n++) {
+            z.grieve(0, 2 * n);
+            d.due("11 enough, " + n, z.told(30), (1 << n) - 1);
+        }
         FireApologies y = new FireApologies();
         y.rocket(0, 0, 1, 3);
         y.rocket(4, 0, 1, 2);
@@ -924,6 +937,11 @@ public final class PromisesTest {
         Due.show(x, "bright 1 m=1&p=2");
         odds(x, "the minute is 1 more", 2, 2, 5);
         d.due("18 rain stays", x.told(10), 9);
+        x.pass(6);
+        x.set(1, 1, 15);
+        odds(x, "rain of minute 6 is the third, that of minute 7 the fourth", 1, 3, 10);
+        x.rain(3, 4);
+        odds(x, "frame, rain above v in minute 7", 1, 0, 1);
         d.due("18 no rocket", x.odds(4, 0), NO);
         d.due("18 no rocket -1", x.odds(-1, 1), NO);
         d.due("18 no part 2", x.odds(0, 2), NO);
@@ -1007,6 +1025,33 @@ public final class PromisesTest {
         x.light(0);
         x.plan(2, 0);
         d.due("21 as all is", x.ends(1), 1);
+        promise21EndsOfEmptied();
+        promise21EndsByDamp();
+    }
+
+    private static void promise21EndsOfEmptied() {
+        FireApologies x = new FireApologies();
+        x.rocket(0, 0, 5, 0);
+        x.grieve(0, 50);
+        x.plan(1, 0);
+        x.plan(-1, 0);
+        d.due("21 emptied", x.ends(0), 50);
+    }
+
+    private static void promise21EndsByDamp() {
+        FireApologies x = new FireApologies();
+        x.rocket(0, 0, 5, 0);
+        x.grieve(0, 50);
+        x.rain(0, 4);
+        x.set(0, 1, 99);
+        x.plan(2, 0);
+        x.plan(0, 0);
+        x.plan(1, 0);
+        d.due("21 damp 0, then 10", x.ends(0), 41);
+        Due.show(x, "dry 3");
+        d.due("21 damp 0, then 9", x.ends(0), 40);
+        Due.show(x, "bright 20 m=1");
+        d.due("21 one minute", x.ends(0), 50 - 29);
     }
 
     private static void promise22Book() {
@@ -1084,6 +1129,8 @@ public final class PromisesTest {
         d.due("24 below 0", x.judge(0, -1), 100);
         x.tape(0, 1, 0);
         d.due("24 a row of none", x.judge(0, 0), 100);
+        x.tape(5, 1, 1);
+        d.due("24 the last tape", x.judge(5, 0), 0);
     }
 
     private static void promise25Image() {
@@ -1163,6 +1210,7 @@ public final class PromisesTest {
         d.due("26 its row", x.row(1, 2, 0), 0);
         d.due("26 the next show", Due.show(x, "y 3"), 2);
         d.due("26 it holds", x.told(1), 3);
+        promise26UndoOfRows();
         FireApologies y = new FireApologies();
         y.image();
         y.rocket(0, 0, 0, 0);
@@ -1170,6 +1218,49 @@ public final class PromisesTest {
         d.due("26 of an object that is new", y.undo(), 0);
         d.due("26 no show holds", y.told(1), 2);
         d.due("26 no such rocket", y.of(0, 0), -10001);
+    }
+
+    private static void promise26UndoOfRows() {
+        FireApologies x = new FireApologies();
+        x.rocket(0, 0, 5, 0);
+        x.rocket(0, 0, 7, 1);
+        x.grieve(0, 100);
+        x.grieve(1, 100);
+        x.set(1, 1, 20);
+        x.mark(1, 1, 13);
+        x.mark(0, 0, 10);
+        x.plan(1, 1);
+        x.plan(3, 1);
+        x.plan(2, 1);
+        x.plan(1, 1);
+        x.book(1, 20);
+        x.book(0, 0);
+        x.image();
+        x.mark(-1, 0, 0);
+        x.mark(0, 5, 10);
+        x.mark(1, 1, 11);
+        x.plan(-1, 0);
+        x.plan(3, 0);
+        x.plan(1, 0);
+        x.plan(0, 0);
+        x.plan(0, 0);
+        x.book(-1, 0);
+        x.book(0, 7);
+        x.book(1, 3);
+        x.undo();
+        d.due("26 marked rows are so", x.wrong(), -5);
+        d.due("26 sizes by marked rows", x.of(0, 10) + x.of(1, 10), (1 << 5) + (1 << 7));
+        x.set(0, 0, 4);
+        d.due("26 the second row is of 0", x.wrong(), 1);
+        x.undo();
+        x.set(1, 1, 0);
+        d.due("26 the first row is of 1", x.wrong(), 0);
+        x.undo();
+        d.due("26 rows of the plan", x.ends(0), 200 - 12 - 14);
+        d.due("26 rows of the plan, seen", x.ends(1), 2);
+        d.due("26 rows of the book", x.looked(), -5);
+        x.set(0, 1, 7);
+        d.due("26 the second row of the book is of 0", x.looked(), 1);
     }
 
     /** What an act answers, and the bodies that ran, as they began. */
@@ -1361,6 +1452,8 @@ public final class PromisesTest {
         d.due("33 next", x.read(2, 1), 0);
         d.due("33 last", x.read(2, 2), -6);
         d.due("33 place 3", x.read(2, 3), NO);
+        x.tape(5, 0, 1);
+        d.due("33 the last tape", x.read(5, 0), 0);
         d.due("33 place -1", x.read(2, -1), NO);
         d.due("33 place MIN", x.read(2, MIN), NO);
         d.due("33 nothing", x.read(1, 0), NO);
@@ -1419,5 +1512,9 @@ public final class PromisesTest {
         x.item(3, 1, 9);
         d.due("34 booleans", x.shift(3, 1, 4, 0, 1), 1);
         d.due("34 booleans come", Long.parseLong(items(x, 4, 2)), 10);
+        x.tape(5, 4, 1);
+        d.due("34 to the last tape", x.shift(4, 0, 5, 0, 1), 1);
+        d.due("34 from the last tape", x.shift(5, 0, 4, 1, 1), 1);
+        d.due("34 booleans come back", Long.parseLong(items(x, 4, 2)), 11);
     }
 }
