@@ -540,7 +540,6 @@ public final class PromisesTest {
 
     /** Which of the rockets 0 .. 5 the E of a clause holds for, as bits. */
     private static int holds(FireApologies x, String e) {
-        x.image();
         int[] was = new int[6];
         FireApologies y = new FireApologies();
         int bits = 0;
