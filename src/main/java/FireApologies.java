@@ -60,11 +60,10 @@ public final class FireApologies {
     /** Weighs one more who is even above any grief of all. */
     private static final int EVEN_WEIGHT = 10000;
 
-    private final World now;
-    private final World saved;
+    private final World now = new World();
+    private final World saved = new World();
     /** Where what is asked is tried, so that nothing changes by it. */
-    private final World trial;
-    private final Rocket[] kinds;
+    private final World trial = new World();
     private final Reader reader = new Reader();
     private final Acting acting = new Acting();
     private final int[] order = new int[LONGEST_ROW];
@@ -75,11 +74,6 @@ public final class FireApologies {
     private int shows;
 
     public FireApologies() {
-        kinds = new Rocket[] {new Rocket(), new Fountain(), new Whistle(), new Frame(),
-            new Cake(), new Wheel(), new Told()};
-        now = new World(kinds);
-        saved = new World(kinds);
-        trial = new World(kinds);
         Arrays.fill(tapeSorts, NO_SORT);
     }
 
@@ -613,7 +607,7 @@ public final class FireApologies {
         }
         acting.number = rocket;
         acting.v = now.rockets[rocket][V];
-        Rocket kind = kinds[now.rockets[rocket][KIND]];
+        Rocket kind = now.kinds[now.rockets[rocket][KIND]];
         if (act == 0) {
             return kind.hisses(acting, x);
         }
@@ -755,7 +749,7 @@ public final class FireApologies {
 
     /** All that THE IMAGE holds. */
     private static final class World {
-        final Rocket[] kinds;
+        final Rocket[] kinds = {new Rocket(), new Fountain(), new Whistle(), new Frame(), new Cake(), new Wheel(), new Told()};
         final int[][] rockets = new int[ROCKETS][CELLS];
         final int[] griefs = new int[PEOPLE];
         final int[] rains = new int[RAINS];
@@ -773,10 +767,6 @@ public final class FireApologies {
         int minute;
         /** The show that holds; null without one. */
         Show held;
-
-        World(Rocket[] kinds) {
-            this.kinds = kinds;
-        }
 
         /** Becomes as the other, but for what is told by hand: nothing that goes on needs that. */
         void goOnFrom(World other) {

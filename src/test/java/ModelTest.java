@@ -12,12 +12,14 @@ public final class ModelTest {
     private final Model m = new Model();
     private final String run;
     private final int oddness;
+    private final boolean lateStart;
     private int calls;
 
     private ModelTest(int seed) {
         random = new Random(seed);
         run = "run " + seed + ", call ";
         oddness = seed % 3 == 0 ? 6 : 40;
+        lateStart = seed % 10 == 0;
     }
 
     public static void main(String[] args) {
@@ -36,6 +38,10 @@ public final class ModelTest {
         for (int q = 0; q < 4; q++) {
             int n = random.nextInt(4) == 0 ? 0 : random.nextInt(60);
             due("grieve", x.grieve(q, n), m.grieve(q, n));
+        }
+        // some runs are near the last MINUTE, so that what is asked goes on beyond it
+        for (int k = 0; lateStart && k < 166; k++) {
+            due("pass", x.pass(60), m.pass(60));
         }
         while (calls < CALLS) {
             if (random.nextInt(12) == 0) {

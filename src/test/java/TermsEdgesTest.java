@@ -145,7 +145,9 @@ public final class TermsEdgesTest {
             "rocket(0, 0, 0, 0); feed '" + HUNDRED + "' = 100; feed(32) = FULL; count(5) = 100; show() = 0"
                 + "; count(5) = 0; told(1) = 7; of(0, 6) = 98",
             "feed '" + NINETY_NINE + "' = 99; feed(100) = 100; feed(100) = FULL; show() = -109; count(5) = 0"
-                + "; feed(100) = 1");
+                + "; feed(100) = 1",
+            "rocket(0, 0, 5, 0); show 'bright 1 " + "p=1|".repeat(22) + "p=0' = 0; of(0, 6) = 11",
+            "rocket(0, 0, 5, 0); show 'bright 1 " + "!!!!p=0&".repeat(11) + "p=0' = 0; of(0, 6) = 11");
     }
 
     private void clauses() {
@@ -594,6 +596,9 @@ public final class TermsEdgesTest {
             rocket(0, 0, 5, 0); grieve(0, 100); rain(0, 9); rain(1, 9); 8 x plan(0, 0); plan(1, 0) = 9; ends(0) = 99
             plan(-1, 0) = 0; 9 x plan(0, 0); plan(1, 0) = 10; ends(0) = 99; ends(1) = 1; told(0) = 0; on(8, 10) = 92
             on(9, 10) = 99
+            """, """
+            rocket(0, 0, 5, 0); grieve(0, 50); set(0, 1, 99); rain(0, 4); plan(2, 0); plan(0, 0); plan(1, 0); ends(0) = 41
+            show 'dry 3' = 0; ends(0) = 40; of(0, 4) = 99
             """);
         s.term(21, "ENDS: GRIEF of all, together; which ROCKETS are SEEN (bits).", """
             ends(0) = 0; ends(1) = 0; 6 x rocket(0, 0, 1, 0); set(5, 0, 0); grieve(0, 20); grieve(3, 999); ends(0) = 1019
@@ -680,11 +685,19 @@ public final class TermsEdgesTest {
             rocket(0, 0, 1, 0); mark(0, 0, 2); mark(0, 0, 3); image() = 1; mark(0, 0, 9); mark(-1, 0, 0); mark(0, 0, 8)
             undo(); count(2) = 2; wrong() = 1; mark(0, 0, 2) = 3; undo(); count(2) = 2
             """, """
+            rocket(0, 0, 4, 0); rocket(0, 0, 5, 0); set(1, 1, 11); mark(1, 1, 10); image() = 2; mark(-1, 0, 0); mark(0, 0, 4)
+            undo(); wrong() = -5
+            """, """
             rocket(0, 0, 1, 0); grieve(0, 9); plan(1, 0); plan(0, 0); image() = 1; plan(-1, 0); plan(0, 0); plan(0, 0); plan(0, 0)
             undo(); count(3) = 2; ends(0) = 7; ends(1) = 1
             """, """
+            2 x rocket(0, 0, 5, 0); plan(1, 1); image() = 2; plan(-1, 0); plan(1, 0); ends(1) = 1; undo(); ends(1) = 2
+            """, """
             rocket(0, 0, 1, 0); book(0, 0); book(0, 4); image() = 1; book(-1, 0); book(0, 9); undo(); count(4) = 2; looked() = 1
             set(0, 1, 4); looked() = 0
+            """, """
+            2 x rocket(0, 0, 5, 0); set(1, 1, 5); book(1, 5); image() = 2; book(-1, 0); book(0, 5); looked() = 0; undo()
+            looked() = -5
             """, """
             image() = 0; show 'dry 5' = 0; image() = 0; show 'dry 6' = 1; told(1) = 6; undo(); told(1) = 5; count(1) = 2
             show 'dry 7' = 2; told(1) = 7; undo(); told(1) = 5
