@@ -74,7 +74,9 @@ public final class FireApologies {
     private int shows;
 
     public FireApologies() {
-        Arrays.fill(tapeSorts, NO_SORT);
+        for (int tape = 0; tape < TAPES; tape++) {
+            tapeSorts[tape] = NO_SORT;
+        }
     }
 
     // ---- rockets, people, shows

@@ -28,7 +28,9 @@ public final class LanguageTest {
         names();
         nested();
         statics();
-        text(Files.readString(Path.of("src/main/java/FireApologies.java")));
+        String source = Files.readString(Path.of("src/main/java/FireApologies.java"));
+        text(source);
+        constructors(source);
         d.end();
     }
 
@@ -132,5 +134,17 @@ public final class LanguageTest {
             d.due("a method of sixty lines at most: " + line, length <= 60 ? 1 : 0, 1);
             d.due("the signs of the text are 1 to 127: " + line, line.chars().allMatch(s -> s < 128) ? 1 : 0, 1);
         }
+    }
+
+    /** A constructor that calls nothing hands out nothing of the object that it makes. */
+    private static void constructors(String source) {
+        int found = 0;
+        Matcher body = Pattern.compile("(?ms)^( +)(?:public )?[A-Z]\\w*\\([^()]*\\) \\{\n(.*?)^\\1\\}").matcher(source);
+        while (body.find()) {
+            found++;
+            d.due("a constructor calls nothing: " + body.group(2), Pattern.compile("\\w\\(|\\bnew\\b")
+                .matcher(body.group(2)).find() ? 1 : 0, 0);
+        }
+        d.due("constructors that are written out", found, 2);
     }
 }
